@@ -7,6 +7,7 @@ final class CutTests {
         Check.test("38: a cut goes down through layers", CutTests::cutGoesDown);
         Check.test("38: a cut is of one ring", CutTests::cutIsOfOneRing);
         Check.test("38: rings have the layers laid over them", CutTests::ringsHaveTheirLayers);
+        Check.test("38: four layers are cut through", CutTests::fourLayers);
         Check.test("38: cut bounds", CutTests::cutBounds);
         Check.test("38: cut wants a piece that is done", CutTests::cutWantsDone);
         Check.test("39: colour", CutTests::colourTells);
@@ -98,6 +99,27 @@ final class CutTests {
         Check.unsupported(() -> house.cut(piece, 1, 1));
         Check.same(house.cut(piece, 0, 2), 8);
         Check.same(house.cut(piece, 0, 1), 7);
+    }
+
+    private static void fourLayers() {
+        Gatherhouse house = house();
+        int piece = Houses.ready(house, 0, 10);
+        house.blow(piece, 0, 7);
+        house.pass(8);
+        for (int pot : new int[] {1, 2, 1, 2}) {
+            house.lay(piece, pot, 1);
+            house.pass(15);
+        }
+        Check.same(house.colour(piece, 0), 9);
+        Houses.annealed(house, piece);
+        Check.same(house.isFirst(piece), true);
+        Check.same(house.price(piece), (12 * 10 * 8 / 50 + 40) * 2);
+        Check.same(house.cut(piece, 0, 1), 8);
+        Check.same(house.cut(piece, 0, 1), 9);
+        Check.same(house.cut(piece, 0, 1), 8);
+        Check.same(house.cut(piece, 0, 1), 7);
+        Check.unsupported(() -> house.cut(piece, 0, 1));
+        Check.same(house.layers(piece), 4);
     }
 
     private static void cutBounds() {

@@ -79,16 +79,9 @@ final class FigureTests {
 
     /** No run of calls makes a house unsound, so fields are set from outside. */
     private static void unsoundIfTampered() throws Exception {
-        for (String name : new String[] {"radius", "height", "wall"}) {
-            for (int wrong : new int[] {0, 100}) {
-                Gatherhouse house = Houses.open();
-                house.gather(0, 20);
-                put(ringOf(house), name, wrong);
-                Check.same(house.isSound(), false);
-                put(piecesOf(house)[0], "state", 'x');
-                Check.same(house.isSound(), true);
-            }
-        }
+        bounded("radius", 1, 60);
+        bounded("height", 2, 60);
+        bounded("wall", 2, 99);
         Gatherhouse cold = Houses.open();
         cold.gather(0, 20);
         put(piecesOf(cold)[0], "heat", 600);
@@ -106,6 +99,21 @@ final class FigureTests {
             put(piecesOf(full)[Houses.ready(full, 0, 20)], "state", 'l');
         }
         Check.same(full.isSound(), false);
+    }
+
+    private static void bounded(String name, int least, int most) throws Exception {
+        Gatherhouse house = Houses.open();
+        house.gather(0, 20);
+        for (int fitting : new int[] {least, most}) {
+            put(ringOf(house), name, fitting);
+            Check.same(house.isSound(), true);
+        }
+        for (int wrong : new int[] {least - 1, most + 1}) {
+            put(ringOf(house), name, wrong);
+            Check.same(house.isSound(), false);
+        }
+        put(piecesOf(house)[0], "state", 'x');
+        Check.same(house.isSound(), true);
     }
 
     private static Object[] piecesOf(Gatherhouse house) throws Exception {

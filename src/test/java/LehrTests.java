@@ -151,6 +151,11 @@ final class LehrTests {
         Houses.crack(house, piece);
         house.hours(1);
         Check.same(house.strain(piece), 20);
+        Gatherhouse other = Houses.open();
+        Houses.crack(other, Houses.ready(other, 0, 60));
+        other.drop(200);
+        other.hours(1);
+        Check.same(other.strain(0), 120);
     }
 
     private static void comesOutAt100() {

@@ -13,6 +13,7 @@ final class PieceTests {
         Check.test("30: flaws", PieceTests::flawsTell);
         Check.test("31: low and high", PieceTests::lowTells);
         Check.test("31: sheared glasses still count", PieceTests::shearedGlassesCount);
+        Check.test("31: four glasses in a piece", PieceTests::fourGlasses);
         Check.test("32: strain", PieceTests::strainTells);
         Check.test("33: isFirst", PieceTests::isFirstTells);
         Check.test("23 to 33: no such piece", PieceTests::noSuchPiece);
@@ -163,6 +164,31 @@ final class PieceTests {
         house.shear(piece);
         Check.same(house.low(piece, false), 700);
         Check.same(house.low(piece, true), 950);
+    }
+
+    private static void fourGlasses() {
+        Gatherhouse house = new Gatherhouse();
+        for (int i = 0; i < 4; i++) {
+            house.glass(600 + 10 * i, 1100 - 10 * i, 100, i);
+        }
+        for (int i = 0; i < 4; i++) {
+            house.pot(i);
+            house.charge(i, 500);
+        }
+        house.hours(10);
+        int one = Houses.ready(house, 0, 40);
+        int two = Houses.ready(house, 1, 40);
+        house.pass(20);
+        house.join(one, two);
+        house.pass(12);
+        house.lay(one, 2, 1);
+        house.pass(15);
+        house.lay(one, 3, 1);
+        house.pass(15);
+        Check.same(house.low(one, false), 630);
+        Check.same(house.low(one, true), 1070);
+        Check.same(house.low(two, false), 610);
+        Check.same(house.colour(one, 1), 3);
     }
 
     private static void strainTells() {

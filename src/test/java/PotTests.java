@@ -158,6 +158,8 @@ final class PotTests {
         house.charge(0, 500);
         house.charge(0, 400);
         house.hours(1);
+        Check.argument(() -> house.charge(0, 0));
+        Check.argument(() -> house.charge(0, -1));
         Check.argument(() -> house.charge(0, 101));
         Check.same(house.of(0, 'm'), 900);
         Check.same(house.of(0, 's'), 28);

@@ -284,8 +284,10 @@ final class WorkTests {
         Check.same(house.busy('f'), 0);
         int thick = Houses.ready(house, 0, 20);
         Check.unsupported(() -> house.neck(thick, 0, 4));
-        int edge = Houses.ready(house, 0, 33);
-        Check.same(house.neck(edge, 0, 2), 55);
+        Check.same(house.neck(thick, 0, 2), 33);
+        house.pass(10);
+        Check.same(house.neck(thick, 0, 2), 99);
+        Check.same(house.isSound(), true);
     }
 
     private static void splitParts() {
@@ -310,6 +312,22 @@ final class WorkTests {
         Check.same(house.ring(piece, 2, 'h'), 6);
         Check.same(house.ring(piece, 2, 'r'), 9);
         Check.same(house.height(piece), 11);
+        splitsTheHeightOf4();
+    }
+
+    private static void splitsTheHeightOf4() {
+        Gatherhouse house = Houses.open();
+        int piece = Houses.ready(house, 0, 60);
+        house.swing(piece, 0, 6);
+        house.pass(6);
+        house.split(piece, 0);
+        house.pass(4);
+        house.split(piece, 0);
+        house.pass(4);
+        Check.same(house.ring(piece, 0, 'h'), 4);
+        Check.same(house.split(piece, 0), 4);
+        Check.same(house.ring(piece, 0, 'h'), 2);
+        Check.same(house.ring(piece, 1, 'h'), 2);
     }
 
     private static void splitBounds() {
