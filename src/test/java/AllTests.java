@@ -9,6 +9,10 @@ public final class AllTests {
             System.exit(2);
         }
         PotTests.run();
+        BoundTests.run();
+        PlaceTests.run();
+        RefusalTests.run();
+        OrderTests.run();
         TimeTests.run();
         WorkTests.run();
         JoinTests.run();

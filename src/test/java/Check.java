@@ -38,33 +38,35 @@ final class Check {
         }
     }
 
-    static void index(Call call) {
-        refused(IndexOutOfBoundsException.class, call);
+    static void index(Gatherhouse house, Call call) {
+        refused(IndexOutOfBoundsException.class, house, call);
     }
 
-    static void argument(Call call) {
-        refused(IllegalArgumentException.class, call);
+    static void argument(Gatherhouse house, Call call) {
+        refused(IllegalArgumentException.class, house, call);
     }
 
-    static void unsupported(Call call) {
-        refused(UnsupportedOperationException.class, call);
+    static void unsupported(Gatherhouse house, Call call) {
+        refused(UnsupportedOperationException.class, house, call);
     }
 
-    static void illegalState(Call call) {
-        refused(IllegalStateException.class, call);
+    static void illegalState(Gatherhouse house, Call call) {
+        refused(IllegalStateException.class, house, call);
     }
 
-    static void noElement(Call call) {
-        refused(java.util.NoSuchElementException.class, call);
+    static void noElement(Gatherhouse house, Call call) {
+        refused(java.util.NoSuchElementException.class, house, call);
     }
 
-    /** The very exception, as a subclass would be one that the machine threw. */
-    private static void refused(Class<?> kind, Call call) {
+    /** The very exception, as a subclass would be one that the machine threw; and nothing is changed by the call. */
+    private static void refused(Class<?> kind, Gatherhouse house, Call call) {
+        String before = State.of(house);
         Object answer;
         try {
             answer = call.run();
         } catch (RuntimeException thrown) {
             same(thrown.getClass(), kind);
+            same(State.of(house), before);
             return;
         }
         throw new AssertionError("answered " + answer + ", due is " + kind.getSimpleName());

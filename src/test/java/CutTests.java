@@ -47,14 +47,14 @@ final class CutTests {
         int piece = layered(house);
         int price = house.price(piece);
         Check.same(house.colour(piece, 0), 9);
-        Check.unsupported(() -> house.cut(piece, 0, 2));
+        Check.unsupported(house, () -> house.cut(piece, 0, 2));
         Check.same(house.colour(piece, 0), 9);
         Check.same(house.cut(piece, 0, 1), 8);
-        Check.unsupported(() -> house.cut(piece, 0, 3));
+        Check.unsupported(house, () -> house.cut(piece, 0, 3));
         Check.same(house.cut(piece, 0, 1), 8);
-        Check.unsupported(() -> house.cut(piece, 0, 2));
+        Check.unsupported(house, () -> house.cut(piece, 0, 2));
         Check.same(house.cut(piece, 0, 1), 7);
-        Check.unsupported(() -> house.cut(piece, 0, 1));
+        Check.unsupported(house, () -> house.cut(piece, 0, 1));
         Check.same(house.colour(piece, 0), 7);
         Check.same(house.ring(piece, 0, 'w'), 8);
         Check.same(house.layers(piece), 2);
@@ -96,7 +96,7 @@ final class CutTests {
         Check.same(house.state(piece), 'd');
         Check.same(house.colour(piece, 1), 7);
         Check.same(house.cut(piece, 1, 2), 9);
-        Check.unsupported(() -> house.cut(piece, 1, 1));
+        Check.unsupported(house, () -> house.cut(piece, 1, 1));
         Check.same(house.cut(piece, 0, 2), 8);
         Check.same(house.cut(piece, 0, 1), 7);
     }
@@ -118,21 +118,21 @@ final class CutTests {
         Check.same(house.cut(piece, 0, 1), 9);
         Check.same(house.cut(piece, 0, 1), 8);
         Check.same(house.cut(piece, 0, 1), 7);
-        Check.unsupported(() -> house.cut(piece, 0, 1));
+        Check.unsupported(house, () -> house.cut(piece, 0, 1));
         Check.same(house.layers(piece), 4);
     }
 
     private static void cutBounds() {
         Gatherhouse house = house();
-        Check.index(() -> house.cut(0, 0, 1));
+        Check.index(house, () -> house.cut(0, 0, 1));
         int piece = layered(house);
-        Check.index(() -> house.cut(piece, 2, 0));
-        Check.index(() -> house.cut(piece, -1, 1));
-        Check.index(() -> house.cut(piece, 8, 1));
-        Check.argument(() -> house.cut(piece, 0, 0));
-        Check.argument(() -> house.cut(piece, 0, 10));
-        Check.argument(() -> house.cut(piece, 0, -1));
-        Check.unsupported(() -> house.cut(piece, 0, 9));
+        Check.index(house, () -> house.cut(piece, 2, 0));
+        Check.index(house, () -> house.cut(piece, -1, 1));
+        Check.index(house, () -> house.cut(piece, 8, 1));
+        Check.argument(house, () -> house.cut(piece, 0, 0));
+        Check.argument(house, () -> house.cut(piece, 0, 10));
+        Check.argument(house, () -> house.cut(piece, 0, -1));
+        Check.unsupported(house, () -> house.cut(piece, 0, 9));
         Check.same(house.cut(piece, 0, 1), 8);
     }
 
@@ -141,14 +141,14 @@ final class CutTests {
         int onPipe = Houses.ready(house, 0, 10);
         house.lay(onPipe, 1, 3);
         house.pass(15);
-        Check.unsupported(() -> house.cut(onPipe, 0, 1));
-        Check.argument(() -> house.cut(onPipe, 0, 10));
+        Check.unsupported(house, () -> house.cut(onPipe, 0, 1));
+        Check.argument(house, () -> house.cut(onPipe, 0, 10));
         Houses.crack(house, onPipe);
-        Check.unsupported(() -> house.cut(onPipe, 0, 1));
+        Check.unsupported(house, () -> house.cut(onPipe, 0, 1));
         house.hours(60);
         int sold = layered(house);
         house.sell(sold);
-        Check.unsupported(() -> house.cut(sold, 0, 1));
+        Check.unsupported(house, () -> house.cut(sold, 0, 1));
     }
 
     private static void colourTells() {
@@ -170,9 +170,9 @@ final class CutTests {
         Gatherhouse house = house();
         int piece = Houses.ready(house, 1, 10);
         Check.same(house.colour(piece, 0), 8);
-        Check.index(() -> house.colour(piece, 1));
-        Check.index(() -> house.colour(piece, -1));
-        Check.index(() -> house.colour(piece, Integer.MAX_VALUE));
-        Check.index(() -> house.colour(1, 0));
+        Check.index(house, () -> house.colour(piece, 1));
+        Check.index(house, () -> house.colour(piece, -1));
+        Check.index(house, () -> house.colour(piece, Integer.MAX_VALUE));
+        Check.index(house, () -> house.colour(1, 0));
     }
 }

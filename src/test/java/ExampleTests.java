@@ -38,36 +38,36 @@ final class ExampleTests {
         Check.same(house.pass(10), 0);
         Check.same(house.gather(0, 20), 1);
         Check.same(house.pass(20), 0);
-        Check.unsupported(() -> house.join(0, 1));
+        Check.unsupported(house, () -> house.join(0, 1));
         Check.same(house.shear(0), 1120);
-        Check.index(() -> house.ring(0, 1, 'w'));
+        Check.index(house, () -> house.ring(0, 1, 'w'));
         Check.same(house.rings(0), 1);
         Check.same(house.mass(0), 1120);
         Check.same(house.height(0), 7);
         Check.same(house.layers(0), 1);
         Check.same(house.flaws(0), 0);
         Check.same(house.drop(30), 40);
-        Check.unsupported(() -> house.crack(0));
+        Check.unsupported(house, () -> house.crack(0));
         Check.same(house.pass(12), 0);
         secondHalf(house);
     }
 
     private static void secondHalf(Gatherhouse house) {
         Check.same(house.lehr(), 0);
-        Check.unsupported(() -> house.hours(40));
+        Check.unsupported(house, () -> house.hours(40));
         Check.same(house.state(0), 'p');
         Check.same(house.strain(0), 0);
-        Check.noElement(() -> house.isFirst(0));
-        Check.unsupported(() -> house.cut(0, 0, 2));
+        Check.noElement(house, () -> house.isFirst(0));
+        Check.unsupported(house, () -> house.cut(0, 0, 2));
         Check.same(house.colour(0, 0), 4);
-        Check.noElement(() -> house.set(2, 1, 50));
+        Check.noElement(house, () -> house.set(2, 1, 50));
         Check.same(house.isInSet(0), false);
         Check.same(house.price(0), 32);
-        Check.unsupported(() -> house.sell(0));
+        Check.unsupported(house, () -> house.sell(0));
         Check.same(house.takings(), 0);
         Check.same(house.pay('f'), 2);
         Check.same(house.change(1), 94);
-        Check.unsupported(() -> house.days(1));
+        Check.unsupported(house, () -> house.days(1));
         Check.same(house.day(), 0);
         Check.same(house.checksum(), 10453472831L);
         Check.same(house.wholeShare(), 1.0f);

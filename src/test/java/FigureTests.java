@@ -32,7 +32,7 @@ final class FigureTests {
 
     private static void wholeShareDivides() {
         Gatherhouse house = Houses.of(900, 1100, 100);
-        Check.noElement(house::wholeShare);
+        Check.noElement(house, house::wholeShare);
         int one = Houses.ready(house, 0, 20);
         Check.same(house.wholeShare(), 1.0f);
         int two = Houses.ready(house, 0, 20);
@@ -49,7 +49,7 @@ final class FigureTests {
 
     private static void meanMassDivides() {
         Gatherhouse house = Houses.open();
-        Check.noElement(house::meanMass);
+        Check.noElement(house, house::meanMass);
         Houses.ready(house, 0, 20);
         Check.same(house.meanMass(), 1000.0);
         house.join(0, Houses.ready(house, 0, 21));

@@ -62,6 +62,13 @@ final class Houses {
     /** As first, its ring being swung by so much. */
     static int thin(Gatherhouse house, int swung) {
         renew(house, 0);
+        int piece = thinOnPipe(house, swung);
+        annealed(house, piece);
+        return piece;
+    }
+
+    /** A piece of the radius 6 whose wall is below 10, so that it comes out without strain at the drop 10. */
+    static int thinOnPipe(Gatherhouse house, int swung) {
         int piece = ready(house, 0, 10);
         house.blow(piece, 0, 1);
         house.pass(8);
@@ -69,8 +76,16 @@ final class Houses {
             house.swing(piece, 0, swung);
             house.pass(6);
         }
-        annealed(house, piece);
         return piece;
+    }
+
+    /** Splits a piece of one ring of the height 16 or more until it has eight. */
+    static void splitIntoEight(Gatherhouse house, int piece) {
+        for (int ring : new int[] {0, 0, 2, 0, 2, 4, 6}) {
+            house.split(piece, ring);
+            house.pass(4);
+        }
+        Check.same(house.rings(piece), 8);
     }
 
     /** Brings a piece out of the lehr as slowly as can be. */

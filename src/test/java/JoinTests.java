@@ -39,7 +39,7 @@ final class JoinTests {
         Check.same(house.colour(one, 0), 1);
         Check.same(house.colour(one, 1), 2);
         Check.same(house.state(two), 'x');
-        Check.unsupported(() -> house.swing(one, 0, 1));
+        Check.unsupported(house, () -> house.swing(one, 0, 1));
         house.pass(12);
         Check.same(house.swing(one, 2, 1), 12);
     }
@@ -61,10 +61,10 @@ final class JoinTests {
         Check.same(house.mass(two), 1500);
         Check.same(house.height(two), 10);
         Check.same(house.layers(two), 0);
-        Check.noElement(() -> house.heatOf(two));
-        Check.noElement(() -> house.isFirst(two));
-        Check.unsupported(() -> house.join(one, two));
-        Check.unsupported(() -> house.join(two, one));
+        Check.noElement(house, () -> house.heatOf(two));
+        Check.noElement(house, () -> house.isFirst(two));
+        Check.unsupported(house, () -> house.join(one, two));
+        Check.unsupported(house, () -> house.join(two, one));
     }
 
     private static void joinSumsFlaws() {
@@ -88,15 +88,15 @@ final class JoinTests {
 
     private static void joinBounds() {
         Gatherhouse house = Houses.open();
-        Check.index(() -> house.join(0, 0));
+        Check.index(house, () -> house.join(0, 0));
         int one = Houses.ready(house, 0, 40);
-        Check.index(() -> house.join(one, 1));
-        Check.index(() -> house.join(1, one));
-        Check.index(() -> house.join(-1, -1));
-        Check.index(() -> house.join(one, Integer.MAX_VALUE));
-        Check.argument(() -> house.join(one, one));
+        Check.index(house, () -> house.join(one, 1));
+        Check.index(house, () -> house.join(1, one));
+        Check.index(house, () -> house.join(-1, -1));
+        Check.index(house, () -> house.join(one, Integer.MAX_VALUE));
+        Check.argument(house, () -> house.join(one, one));
         house.pass(300);
-        Check.argument(() -> house.join(one, one));
+        Check.argument(house, () -> house.join(one, one));
     }
 
     private static void joinWantsAll() {
@@ -105,30 +105,30 @@ final class JoinTests {
         house.pass(10);
         int two = house.gather(0, 40);
         house.pass(10);
-        Check.unsupported(() -> house.join(one, two));
-        Check.unsupported(() -> house.join(two, one));
+        Check.unsupported(house, () -> house.join(one, two));
+        Check.unsupported(house, () -> house.join(two, one));
         house.pass(10);
         Check.same(house.heatOf(two), 1060);
-        Check.unsupported(() -> house.join(one, two));
-        Check.unsupported(() -> house.join(two, one));
+        Check.unsupported(house, () -> house.join(one, two));
+        Check.unsupported(house, () -> house.join(two, one));
         house.pass(5);
         int three = house.gather(0, 40);
         house.pass(25);
         house.blow(three, 0, 1);
-        Check.unsupported(() -> house.join(one, two));
+        Check.unsupported(house, () -> house.join(one, two));
         house.pass(8);
         house.swing(three, 0, 1);
-        Check.unsupported(() -> house.join(one, two));
+        Check.unsupported(house, () -> house.join(one, two));
         house.pass(6);
         house.crack(three);
-        Check.unsupported(() -> house.join(one, three));
-        Check.unsupported(() -> house.join(three, one));
+        Check.unsupported(house, () -> house.join(one, three));
+        Check.unsupported(house, () -> house.join(three, one));
         house.pass(3);
-        Check.unsupported(() -> house.join(one, three));
-        Check.unsupported(() -> house.join(three, one));
+        Check.unsupported(house, () -> house.join(one, three));
+        Check.unsupported(house, () -> house.join(three, one));
         Check.same(house.rings(one), 1);
         Check.same(house.join(one, two), 2);
-        Check.unsupported(() -> house.crack(one));
+        Check.unsupported(house, () -> house.crack(one));
     }
 
     private static void joinWantsAgreement() {
@@ -144,18 +144,18 @@ final class JoinTests {
         int one = Houses.ready(house, 0, 40);
         int two = Houses.ready(house, 1, 40);
         int three = Houses.ready(house, 2, 40);
-        Check.unsupported(() -> house.join(two, three));
+        Check.unsupported(house, () -> house.join(two, three));
         Check.same(house.join(one, two), 2);
         house.pass(12);
-        Check.unsupported(() -> house.join(one, three));
-        Check.unsupported(() -> house.join(three, one));
+        Check.unsupported(house, () -> house.join(one, three));
+        Check.unsupported(house, () -> house.join(three, one));
         Check.same(house.state(three), 'p');
         int four = Houses.ready(house, 2, 40);
         Check.same(house.join(three, four), 2);
         house.pass(12);
         house.shear(one);
         house.pass(5);
-        Check.unsupported(() -> house.join(one, three));
+        Check.unsupported(house, () -> house.join(one, three));
     }
 
     private static void joinWantsHeat() {
@@ -172,7 +172,7 @@ final class JoinTests {
         house.pass(8);
         Check.same(house.heatOf(narrow), 1004);
         Check.same(house.heatOf(wide), 1044);
-        Check.unsupported(() -> house.join(wide, narrow));
+        Check.unsupported(house, () -> house.join(wide, narrow));
         house.pass(2);
         Check.same(house.join(wide, narrow), 2);
         Check.same(house.low(wide, false), 900);
@@ -199,7 +199,7 @@ final class JoinTests {
         house.pass(10);
         Check.same(house.heatOf(wide), 830);
         Check.same(house.heatOf(narrow), 1040);
-        Check.unsupported(() -> house.join(wide, narrow));
+        Check.unsupported(house, () -> house.join(wide, narrow));
         Check.same(house.join(narrow, wide), 2);
         Check.same(house.heatOf(narrow), 1040);
         Check.same(house.low(narrow, false), 900);
@@ -211,7 +211,7 @@ final class JoinTests {
         int two = Houses.ready(house, 0, 40);
         house.lay(two, 0, 1);
         house.pass(15);
-        Check.unsupported(() -> house.join(one, two));
+        Check.unsupported(house, () -> house.join(one, two));
         Check.same(house.state(two), 'p');
         Check.same(house.join(two, one), 2);
         Check.same(house.layers(two), 1);
@@ -233,8 +233,8 @@ final class JoinTests {
         Check.same(house.join(one, two), 8);
         house.pass(12);
         Check.same(house.height(one), 20);
-        Check.unsupported(() -> house.join(one, three));
-        Check.unsupported(() -> house.join(three, one));
+        Check.unsupported(house, () -> house.join(one, three));
+        Check.unsupported(house, () -> house.join(three, one));
         Check.same(house.rings(one), 8);
         house.shear(one);
         house.pass(5);
@@ -243,10 +243,10 @@ final class JoinTests {
 
     private static void crackPutsIntoLehr() {
         Gatherhouse house = Houses.open();
-        Check.index(() -> house.crack(0));
+        Check.index(house, () -> house.crack(0));
         int piece = Houses.ready(house, 0, 40);
-        Check.index(() -> house.crack(1));
-        Check.index(() -> house.crack(-1));
+        Check.index(house, () -> house.crack(1));
+        Check.index(house, () -> house.crack(-1));
         Check.same(house.crack(piece), 1);
         Check.same(house.state(piece), 'l');
         Check.same(house.lehr(), 1);
@@ -254,7 +254,7 @@ final class JoinTests {
         house.pass(600);
         Check.same(house.heatOf(piece), 1060);
         Check.same(house.state(piece), 'l');
-        Check.unsupported(() -> house.crack(piece));
+        Check.unsupported(house, () -> house.crack(piece));
     }
 
     private static void lehrTakesSix() {
@@ -264,7 +264,7 @@ final class JoinTests {
             house.pass(3);
         }
         int seventh = Houses.ready(house, 0, 20);
-        Check.unsupported(() -> house.crack(seventh));
+        Check.unsupported(house, () -> house.crack(seventh));
         Check.same(house.state(seventh), 'p');
         Check.same(house.lehr(), 6);
         house.pass(300);

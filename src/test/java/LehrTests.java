@@ -39,9 +39,9 @@ final class LehrTests {
 
     private static void dropBounds() {
         Gatherhouse house = new Gatherhouse();
-        Check.argument(() -> house.drop(9));
-        Check.argument(() -> house.drop(201));
-        Check.argument(() -> house.drop(-40));
+        Check.argument(house, () -> house.drop(9));
+        Check.argument(house, () -> house.drop(201));
+        Check.argument(house, () -> house.drop(-40));
         Check.same(house.drop(50), 40);
     }
 
@@ -198,15 +198,15 @@ final class LehrTests {
 
     private static void daysBounds() {
         Gatherhouse house = Houses.open();
-        Check.argument(() -> house.days(0));
-        Check.argument(() -> house.days(61));
-        Check.argument(() -> house.days(-1));
-        Check.argument(() -> house.days(Integer.MAX_VALUE));
+        Check.argument(house, () -> house.days(0));
+        Check.argument(house, () -> house.days(61));
+        Check.argument(house, () -> house.days(-1));
+        Check.argument(house, () -> house.days(Integer.MAX_VALUE));
         int piece = Houses.ready(house, 0, 20);
-        Check.unsupported(() -> house.days(1));
-        Check.argument(() -> house.days(0));
+        Check.unsupported(house, () -> house.days(1));
+        Check.argument(house, () -> house.days(0));
         house.crack(piece);
-        Check.illegalState(() -> house.days(1));
+        Check.illegalState(house, () -> house.days(1));
         Check.same(house.day(), 0);
         Check.same(house.of(0, 'a'), 10);
     }

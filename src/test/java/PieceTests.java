@@ -47,11 +47,11 @@ final class PieceTests {
         house.hours(20);
         Check.same(house.heatOf(piece), 140);
         house.hours(1);
-        Check.noElement(() -> house.heatOf(piece));
+        Check.noElement(house, () -> house.heatOf(piece));
         int first = Houses.first(house);
-        Check.noElement(() -> house.heatOf(first));
+        Check.noElement(house, () -> house.heatOf(first));
         house.sell(first);
-        Check.noElement(() -> house.heatOf(first));
+        Check.noElement(house, () -> house.heatOf(first));
     }
 
     private static void ringsTell() {
@@ -73,13 +73,13 @@ final class PieceTests {
     private static void ringRefuses() {
         Gatherhouse house = Houses.open();
         int piece = Houses.ready(house, 0, 23);
-        Check.index(() -> house.ring(piece, 1, '?'));
-        Check.index(() -> house.ring(piece, -1, 'r'));
-        Check.index(() -> house.ring(piece, 8, 'r'));
-        Check.index(() -> house.ring(1, 0, 'r'));
-        Check.argument(() -> house.ring(piece, 0, '?'));
-        Check.argument(() -> house.ring(piece, 0, 'R'));
-        Check.argument(() -> house.ring(piece, 0, (char) 0));
+        Check.index(house, () -> house.ring(piece, 1, '?'));
+        Check.index(house, () -> house.ring(piece, -1, 'r'));
+        Check.index(house, () -> house.ring(piece, 8, 'r'));
+        Check.index(house, () -> house.ring(1, 0, 'r'));
+        Check.argument(house, () -> house.ring(piece, 0, '?'));
+        Check.argument(house, () -> house.ring(piece, 0, 'R'));
+        Check.argument(house, () -> house.ring(piece, 0, (char) 0));
     }
 
     private static void massAndHeight() {
@@ -213,9 +213,9 @@ final class PieceTests {
     private static void isFirstTells() {
         Gatherhouse house = Houses.open();
         int lost = Houses.ready(house, 0, 20);
-        Check.noElement(() -> house.isFirst(lost));
+        Check.noElement(house, () -> house.isFirst(lost));
         house.pass(300);
-        Check.noElement(() -> house.isFirst(lost));
+        Check.noElement(house, () -> house.isFirst(lost));
         int first = Houses.first(house);
         Check.same(house.isFirst(first), true);
         house.sell(first);
@@ -223,7 +223,7 @@ final class PieceTests {
         Houses.renew(house, 0);
         int broken = Houses.ready(house, 0, 40);
         house.crack(broken);
-        Check.noElement(() -> house.isFirst(broken));
+        Check.noElement(house, () -> house.isFirst(broken));
         house.pass(3);
         house.hours(24);
         Check.same(house.state(broken), 'x');
@@ -233,22 +233,22 @@ final class PieceTests {
     private static void noSuchPiece() {
         Gatherhouse house = Houses.open();
         for (int piece : new int[] {0, -1, 15, 16, Integer.MIN_VALUE, Integer.MAX_VALUE}) {
-            Check.index(() -> house.state(piece));
-            Check.index(() -> house.heatOf(piece));
-            Check.index(() -> house.rings(piece));
-            Check.index(() -> house.ring(piece, 0, 'r'));
-            Check.index(() -> house.mass(piece));
-            Check.index(() -> house.height(piece));
-            Check.index(() -> house.layers(piece));
-            Check.index(() -> house.flaws(piece));
-            Check.index(() -> house.low(piece, true));
-            Check.index(() -> house.strain(piece));
-            Check.index(() -> house.isFirst(piece));
-            Check.index(() -> house.cut(piece, 0, 1));
-            Check.index(() -> house.colour(piece, 0));
-            Check.index(() -> house.isInSet(piece));
-            Check.index(() -> house.price(piece));
-            Check.index(() -> house.sell(piece));
+            Check.index(house, () -> house.state(piece));
+            Check.index(house, () -> house.heatOf(piece));
+            Check.index(house, () -> house.rings(piece));
+            Check.index(house, () -> house.ring(piece, 0, 'r'));
+            Check.index(house, () -> house.mass(piece));
+            Check.index(house, () -> house.height(piece));
+            Check.index(house, () -> house.layers(piece));
+            Check.index(house, () -> house.flaws(piece));
+            Check.index(house, () -> house.low(piece, true));
+            Check.index(house, () -> house.strain(piece));
+            Check.index(house, () -> house.isFirst(piece));
+            Check.index(house, () -> house.cut(piece, 0, 1));
+            Check.index(house, () -> house.colour(piece, 0));
+            Check.index(house, () -> house.isInSet(piece));
+            Check.index(house, () -> house.price(piece));
+            Check.index(house, () -> house.sell(piece));
         }
     }
 }

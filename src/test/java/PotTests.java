@@ -30,26 +30,26 @@ final class PotTests {
             Check.same(house.busy(role), 0);
             Check.same(house.pay(role), 0);
         }
-        Check.index(() -> house.agree(0, 0));
-        Check.index(() -> house.of(0, 'm'));
-        Check.index(() -> house.state(0));
-        Check.noElement(house::wholeShare);
-        Check.noElement(house::meanMass);
+        Check.index(house, () -> house.agree(0, 0));
+        Check.index(house, () -> house.of(0, 'm'));
+        Check.index(house, () -> house.state(0));
+        Check.noElement(house, house::wholeShare);
+        Check.noElement(house, house::meanMass);
         Check.same(house.drop(40), 40);
     }
 
     private static void glassBounds() {
         Gatherhouse house = new Gatherhouse();
-        Check.argument(() -> house.glass(599, 1100, 100, 0));
-        Check.argument(() -> house.glass(1101, 1101, 100, 0));
-        Check.argument(() -> house.glass(700, 699, 100, 0));
-        Check.argument(() -> house.glass(700, 1101, 100, 0));
-        Check.argument(() -> house.glass(700, 1000, 49, 0));
-        Check.argument(() -> house.glass(700, 1000, 151, 0));
-        Check.argument(() -> house.glass(700, 1000, 100, -1));
-        Check.argument(() -> house.glass(700, 1000, 100, 10));
-        Check.argument(() -> house.glass(Integer.MIN_VALUE, Integer.MAX_VALUE, 100, 0));
-        Check.index(() -> house.agree(0, 0));
+        Check.argument(house, () -> house.glass(599, 1100, 100, 0));
+        Check.argument(house, () -> house.glass(1101, 1101, 100, 0));
+        Check.argument(house, () -> house.glass(700, 699, 100, 0));
+        Check.argument(house, () -> house.glass(700, 1101, 100, 0));
+        Check.argument(house, () -> house.glass(700, 1000, 49, 0));
+        Check.argument(house, () -> house.glass(700, 1000, 151, 0));
+        Check.argument(house, () -> house.glass(700, 1000, 100, -1));
+        Check.argument(house, () -> house.glass(700, 1000, 100, 10));
+        Check.argument(house, () -> house.glass(Integer.MIN_VALUE, Integer.MAX_VALUE, 100, 0));
+        Check.index(house, () -> house.agree(0, 0));
         Check.same(house.glass(600, 1100, 50, 0), 0);
         Check.same(house.glass(600, 600, 150, 9), 1);
         Check.same(house.glass(1100, 1100, 150, 9), 2);
@@ -60,10 +60,10 @@ final class PotTests {
         for (int i = 0; i < 6; i++) {
             Check.same(house.glass(600, 1100, 100, i), i);
         }
-        Check.illegalState(() -> house.glass(600, 1100, 100, 0));
-        Check.argument(() -> house.glass(599, 1100, 100, 0));
+        Check.illegalState(house, () -> house.glass(600, 1100, 100, 0));
+        Check.argument(house, () -> house.glass(599, 1100, 100, 0));
         Check.same(house.agree(0, 5), true);
-        Check.index(() -> house.agree(0, 6));
+        Check.index(house, () -> house.agree(0, 6));
     }
 
     private static void agreeByRanges() {
@@ -104,25 +104,25 @@ final class PotTests {
     private static void agreeWantsGlasses() {
         Gatherhouse house = new Gatherhouse();
         house.glass(700, 900, 100, 0);
-        Check.index(() -> house.agree(0, 1));
-        Check.index(() -> house.agree(1, 0));
-        Check.index(() -> house.agree(-1, 0));
-        Check.index(() -> house.agree(0, Integer.MIN_VALUE));
-        Check.index(() -> house.agree(0, Integer.MAX_VALUE));
+        Check.index(house, () -> house.agree(0, 1));
+        Check.index(house, () -> house.agree(1, 0));
+        Check.index(house, () -> house.agree(-1, 0));
+        Check.index(house, () -> house.agree(0, Integer.MIN_VALUE));
+        Check.index(house, () -> house.agree(0, Integer.MAX_VALUE));
     }
 
     private static void potBounds() {
         Gatherhouse house = new Gatherhouse();
-        Check.index(() -> house.pot(0));
+        Check.index(house, () -> house.pot(0));
         house.glass(700, 900, 100, 0);
-        Check.index(() -> house.pot(1));
-        Check.index(() -> house.pot(-1));
+        Check.index(house, () -> house.pot(1));
+        Check.index(house, () -> house.pot(-1));
         for (int i = 0; i < 4; i++) {
             Check.same(house.pot(0), i);
             Check.same(house.of(i, 'm'), 0);
         }
-        Check.illegalState(() -> house.pot(0));
-        Check.index(() -> house.pot(1));
+        Check.illegalState(house, () -> house.pot(0));
+        Check.index(house, () -> house.pot(1));
     }
 
     private static void chargeAdds() {
@@ -145,26 +145,26 @@ final class PotTests {
 
     private static void chargeBounds() {
         Gatherhouse house = new Gatherhouse();
-        Check.index(() -> house.charge(0, 0));
+        Check.index(house, () -> house.charge(0, 0));
         house.glass(600, 1100, 100, 0);
         house.pot(0);
-        Check.index(() -> house.charge(1, 10));
-        Check.index(() -> house.charge(-1, 10));
-        Check.argument(() -> house.charge(0, 0));
-        Check.argument(() -> house.charge(0, -1));
-        Check.argument(() -> house.charge(0, 501));
-        Check.argument(() -> house.charge(0, Integer.MAX_VALUE));
+        Check.index(house, () -> house.charge(1, 10));
+        Check.index(house, () -> house.charge(-1, 10));
+        Check.argument(house, () -> house.charge(0, 0));
+        Check.argument(house, () -> house.charge(0, -1));
+        Check.argument(house, () -> house.charge(0, 501));
+        Check.argument(house, () -> house.charge(0, Integer.MAX_VALUE));
         Check.same(house.of(0, 's'), 0);
         house.charge(0, 500);
         house.charge(0, 400);
         house.hours(1);
-        Check.argument(() -> house.charge(0, 0));
-        Check.argument(() -> house.charge(0, -1));
-        Check.argument(() -> house.charge(0, 101));
+        Check.argument(house, () -> house.charge(0, 0));
+        Check.argument(house, () -> house.charge(0, -1));
+        Check.argument(house, () -> house.charge(0, 101));
         Check.same(house.of(0, 'm'), 900);
         Check.same(house.of(0, 's'), 28);
         Check.same(house.charge(0, 100), 1000);
-        Check.argument(() -> house.charge(0, 1));
+        Check.argument(house, () -> house.charge(0, 1));
     }
 
     private static void changeEmpties() {
@@ -180,8 +180,8 @@ final class PotTests {
         house.hours(4);
         Check.same(house.change(0), 7);
         Check.same(house.of(0, 's'), 22);
-        Check.index(() -> house.change(1));
-        Check.index(() -> house.change(-1));
+        Check.index(house, () -> house.change(1));
+        Check.index(house, () -> house.change(-1));
     }
 
     private static void ofTells() {
@@ -200,11 +200,11 @@ final class PotTests {
 
     private static void ofRefuses() {
         Gatherhouse house = Houses.open();
-        Check.index(() -> house.of(1, 'm'));
-        Check.index(() -> house.of(-1, '?'));
-        Check.index(() -> house.of(4, 'm'));
-        Check.argument(() -> house.of(0, 'M'));
-        Check.argument(() -> house.of(0, (char) 0));
-        Check.argument(() -> house.of(0, (char) 65535));
+        Check.index(house, () -> house.of(1, 'm'));
+        Check.index(house, () -> house.of(-1, '?'));
+        Check.index(house, () -> house.of(4, 'm'));
+        Check.argument(house, () -> house.of(0, 'M'));
+        Check.argument(house, () -> house.of(0, (char) 0));
+        Check.argument(house, () -> house.of(0, (char) 65535));
     }
 }

@@ -47,12 +47,12 @@ final class RandomTests {
     private static void runOf(Random random, int oddOneIn) throws Exception {
         List<Method> face = face();
         Gatherhouse house = random.nextBoolean() ? Houses.open() : Houses.ofTwo(100, 100 + random.nextInt(6));
-        String before = seen(house);
+        String before = State.of(house);
         for (int i = 0; i < CALLS; i++) {
             Method method = face.get(random.nextInt(face.size()));
             Object[] arguments = argumentsOf(method, random, oddOneIn);
             boolean isRefused = isRefused(house, method, arguments);
-            String after = seen(house);
+            String after = State.of(house);
             if (isRefused && !after.equals(before)) {
                 throw new AssertionError(method.getName() + " threw and changed\n" + before + "\nto\n" + after);
             }
@@ -60,7 +60,7 @@ final class RandomTests {
             before = after;
             if (random.nextInt(3) == 0) {
                 house.pass(1 + random.nextInt(12));
-                before = seen(house);
+                before = State.of(house);
             }
         }
     }
@@ -121,54 +121,6 @@ final class RandomTests {
                 return random.nextInt(16);
             default:
                 return random.nextInt(place == 0 ? 8 : 6);
-        }
-    }
-
-    private static String seen(Gatherhouse house) {
-        StringBuilder seen = new StringBuilder();
-        seen.append(house.time()).append(' ').append(house.day()).append(' ').append(house.lehr());
-        seen.append(' ').append(house.takings()).append(' ').append(house.checksum());
-        for (char role : "gsfb".toCharArray()) {
-            seen.append(' ').append(house.busy(role)).append(' ').append(house.pay(role));
-        }
-        seePots(house, seen);
-        for (int piece = 0; piece < 16; piece++) {
-            try {
-                seen.append('\n').append(house.state(piece));
-            } catch (IndexOutOfBoundsException none) {
-                break;
-            }
-            seePiece(house, piece, seen);
-        }
-        return seen.toString();
-    }
-
-    private static void seePots(Gatherhouse house, StringBuilder seen) {
-        for (int pot = 0; pot < 4; pot++) {
-            try {
-                for (char what : "msta".toCharArray()) {
-                    seen.append(' ').append(house.of(pot, what));
-                }
-            } catch (IndexOutOfBoundsException none) {
-                return;
-            }
-        }
-    }
-
-    private static void seePiece(Gatherhouse house, int piece, StringBuilder seen) {
-        char state = house.state(piece);
-        if (state == 'p' || state == 'l') {
-            seen.append(' ').append(house.heatOf(piece));
-        }
-        seen.append(' ').append(house.layers(piece)).append(' ').append(house.flaws(piece));
-        seen.append(' ').append(house.low(piece, false)).append(' ').append(house.low(piece, true));
-        seen.append(' ').append(house.strain(piece)).append(' ').append(house.isInSet(piece));
-        seen.append(' ').append(house.price(piece));
-        for (int ring = 0; ring < house.rings(piece); ring++) {
-            for (char what : "rhw".toCharArray()) {
-                seen.append(' ').append(house.ring(piece, ring, what));
-            }
-            seen.append(' ').append(house.colour(piece, ring));
         }
     }
 }

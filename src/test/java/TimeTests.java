@@ -68,10 +68,10 @@ final class TimeTests {
 
     private static void hoursBounds() {
         Gatherhouse house = Houses.open();
-        Check.argument(() -> house.hours(0));
-        Check.argument(() -> house.hours(-1));
-        Check.argument(() -> house.hours(241));
-        Check.argument(() -> house.hours(Integer.MAX_VALUE));
+        Check.argument(house, () -> house.hours(0));
+        Check.argument(house, () -> house.hours(-1));
+        Check.argument(house, () -> house.hours(241));
+        Check.argument(house, () -> house.hours(Integer.MAX_VALUE));
         Check.same(house.of(0, 'a'), 10);
         Check.same(house.hours(240), 0);
         Check.same(house.of(0, 'a'), 250);
@@ -81,15 +81,15 @@ final class TimeTests {
     private static void hoursWantRest() {
         Gatherhouse house = Houses.open();
         int piece = house.gather(0, 20);
-        Check.argument(() -> house.hours(0));
-        Check.unsupported(() -> house.hours(1));
+        Check.argument(house, () -> house.hours(0));
+        Check.unsupported(house, () -> house.hours(1));
         house.pass(20);
-        Check.unsupported(() -> house.hours(1));
+        Check.unsupported(house, () -> house.hours(1));
         house.crack(piece);
-        Check.illegalState(() -> house.hours(1));
-        Check.argument(() -> house.hours(241));
+        Check.illegalState(house, () -> house.hours(1));
+        Check.argument(house, () -> house.hours(241));
         house.pass(2);
-        Check.illegalState(() -> house.hours(1));
+        Check.illegalState(house, () -> house.hours(1));
         Check.same(house.of(0, 'a'), 10);
         house.pass(1);
         Check.same(house.hours(1), 0);
@@ -104,15 +104,27 @@ final class TimeTests {
         Gatherhouse gaffer = Houses.of(1058, 1100, 100);
         gaffer.blow(Houses.ready(gaffer, 0, 40), 0, 1);
         for (Gatherhouse house : new Gatherhouse[] {gatherer, servitor, gaffer}) {
-            Check.unsupported(() -> house.hours(1));
-            Check.unsupported(() -> house.days(1));
+            Check.unsupported(house, () -> house.hours(1));
+            Check.unsupported(house, () -> house.days(1));
             Check.same(house.pass(2), 1);
-            Check.illegalState(() -> house.hours(1));
-            Check.illegalState(() -> house.days(1));
-            house.pass(18);
-            Check.same(house.hours(1), 0);
-            Check.same(house.days(1), 0);
+            hindersToItsLastSecond(house);
         }
+        Gatherhouse boy = Houses.open();
+        boy.crack(Houses.ready(boy, 0, 40));
+        hindersToItsLastSecond(boy);
+    }
+
+    private static void hindersToItsLastSecond(Gatherhouse house) {
+        int waited = 0;
+        while (house.busy('g') + house.busy('s') + house.busy('f') + house.busy('b') > 0) {
+            Check.illegalState(house, () -> house.hours(1));
+            Check.illegalState(house, () -> house.days(1));
+            house.pass(1);
+            waited++;
+        }
+        Check.same(waited >= 3, true);
+        Check.same(house.hours(1), 0);
+        Check.same(house.days(1), 0);
     }
 
     private static void hoursAreNoSeconds() {
@@ -174,14 +186,14 @@ final class TimeTests {
         Check.same(house.heatOf(piece), 1040);
         Check.same(house.state(piece), 'p');
         Check.same(house.pass(1), 1);
-        Check.noElement(() -> house.heatOf(piece));
+        Check.noElement(house, () -> house.heatOf(piece));
     }
 
     private static void passBounds() {
         Gatherhouse house = Houses.open();
-        Check.argument(() -> house.pass(0));
-        Check.argument(() -> house.pass(-5));
-        Check.argument(() -> house.pass(601));
+        Check.argument(house, () -> house.pass(0));
+        Check.argument(house, () -> house.pass(-5));
+        Check.argument(house, () -> house.pass(601));
         Check.same(house.time(), 0);
         Check.same(house.pass(600), 0);
         Check.same(house.pass(1), 0);
@@ -271,7 +283,7 @@ final class TimeTests {
         pays(house, 3, 4, 3, 1);
         house.crack(piece);
         pays(house, 3, 4, 3, 2);
-        Check.unsupported(() -> house.crack(piece));
+        Check.unsupported(house, () -> house.crack(piece));
         pays(house, 3, 4, 3, 2);
     }
 
@@ -285,8 +297,8 @@ final class TimeTests {
     private static void noSuchRole() {
         Gatherhouse house = new Gatherhouse();
         for (char letter : new char[] {'a', 'G', 0, 65535}) {
-            Check.argument(() -> house.busy(letter));
-            Check.argument(() -> house.pay(letter));
+            Check.argument(house, () -> house.busy(letter));
+            Check.argument(house, () -> house.pay(letter));
         }
     }
 }

@@ -66,7 +66,7 @@ final class TradeTests {
         members(house, 5, 0, 3);
         Check.same(house.set(2, 1, 0), 0);
         members(house, 5, 0, 1, 2, 3);
-        Check.noElement(() -> house.set(2, 1, 0));
+        Check.noElement(house, () -> house.set(2, 1, 0));
     }
 
     private static void keptOut() {
@@ -80,24 +80,24 @@ final class TradeTests {
         house.pass(4);
         Houses.annealed(house, twoRings);
         Check.same(house.state(twoRings), 'd');
-        Check.noElement(() -> house.set(3, 1, 99));
-        Check.noElement(() -> house.set(2, 2, 99));
+        Check.noElement(house, () -> house.set(3, 1, 99));
+        Check.noElement(house, () -> house.set(2, 2, 99));
         Check.same(house.set(2, 1, 99), 0);
         members(house, 4, 0, 2);
         int other = Houses.thin(house, 0);
-        Check.noElement(() -> house.set(2, 1, 99));
+        Check.noElement(house, () -> house.set(2, 1, 99));
         Houses.renew(house, 0);
         int inLehr = Houses.ready(house, 0, 10);
-        Check.noElement(() -> house.set(2, 1, 99));
+        Check.noElement(house, () -> house.set(2, 1, 99));
         house.crack(inLehr);
-        Check.noElement(() -> house.set(2, 1, 99));
+        Check.noElement(house, () -> house.set(2, 1, 99));
         Check.same(house.isInSet(other), false);
     }
 
     private static void fartherApart() {
         Gatherhouse house = houseOf(0, 2);
-        Check.unsupported(() -> house.set(2, 1, 1));
-        Check.unsupported(() -> house.set(2, 1, 0));
+        Check.unsupported(house, () -> house.set(2, 1, 1));
+        Check.unsupported(house, () -> house.set(2, 1, 0));
         members(house, 2);
         Check.same(house.set(2, 1, 2), 2);
         members(house, 2, 0, 1);
@@ -105,15 +105,15 @@ final class TradeTests {
 
     private static void setBounds() {
         Gatherhouse house = houseOf(0, 0, 1, 1, 1, 2);
-        Check.argument(() -> house.set(1, 1, 9));
-        Check.argument(() -> house.set(7, 1, 9));
-        Check.argument(() -> house.set(2, 0, 9));
-        Check.argument(() -> house.set(2, 9, 9));
-        Check.argument(() -> house.set(2, 1, -1));
-        Check.argument(() -> house.set(2, 1, 100));
-        Check.noElement(() -> house.set(2, 8, 99));
+        Check.argument(house, () -> house.set(1, 1, 9));
+        Check.argument(house, () -> house.set(7, 1, 9));
+        Check.argument(house, () -> house.set(2, 0, 9));
+        Check.argument(house, () -> house.set(2, 9, 9));
+        Check.argument(house, () -> house.set(2, 1, -1));
+        Check.argument(house, () -> house.set(2, 1, 100));
+        Check.noElement(house, () -> house.set(2, 8, 99));
         Check.same(house.set(6, 1, 99), 2);
-        Check.noElement(() -> house.set(6, 1, 0));
+        Check.noElement(house, () -> house.set(6, 1, 0));
     }
 
     private static void likeAllChoices() {
@@ -253,7 +253,7 @@ final class TradeTests {
         Check.same(house.sell(1), 27);
         Check.same(house.sell(0), 27);
         Check.same(house.takings(), 72);
-        Check.unsupported(() -> house.sell(1));
+        Check.unsupported(house, () -> house.sell(1));
         Check.same(house.takings(), 72);
         Check.same(house.price(1), 27);
         Check.same(house.pay('g'), 3);
@@ -262,15 +262,15 @@ final class TradeTests {
 
     private static void sellWantsDone() {
         Gatherhouse house = Houses.open();
-        Check.index(() -> house.sell(0));
+        Check.index(house, () -> house.sell(0));
         int piece = Houses.ready(house, 0, 40);
-        Check.unsupported(() -> house.sell(piece));
+        Check.unsupported(house, () -> house.sell(piece));
         Houses.crack(house, piece);
-        Check.unsupported(() -> house.sell(piece));
+        Check.unsupported(house, () -> house.sell(piece));
         house.hours(24);
         Check.same(house.state(piece), 'x');
-        Check.unsupported(() -> house.sell(piece));
-        Check.index(() -> house.sell(1));
+        Check.unsupported(house, () -> house.sell(piece));
+        Check.index(house, () -> house.sell(1));
         Check.same(house.takings(), 0);
     }
 }

@@ -59,12 +59,12 @@ final class WorkTests {
 
     private static void gatherBounds() {
         Gatherhouse house = Houses.open();
-        Check.index(() -> house.gather(1, 0));
-        Check.index(() -> house.gather(-1, 20));
-        Check.index(() -> house.gather(4, 20));
-        Check.argument(() -> house.gather(0, 9));
-        Check.argument(() -> house.gather(0, 61));
-        Check.argument(() -> house.gather(0, -20));
+        Check.index(house, () -> house.gather(1, 0));
+        Check.index(house, () -> house.gather(-1, 20));
+        Check.index(house, () -> house.gather(4, 20));
+        Check.argument(house, () -> house.gather(0, 9));
+        Check.argument(house, () -> house.gather(0, 61));
+        Check.argument(house, () -> house.gather(0, -20));
         Check.same(house.of(0, 'm'), 1000);
         Check.same(Houses.ready(house, 0, 10), 0);
         Check.same(Houses.ready(house, 0, 60), 1);
@@ -75,20 +75,20 @@ final class WorkTests {
         Gatherhouse house = new Gatherhouse();
         house.glass(600, 1100, 100, 0);
         house.pot(0);
-        Check.unsupported(() -> house.gather(0, 10));
+        Check.unsupported(house, () -> house.gather(0, 10));
         house.charge(0, 30);
-        Check.unsupported(() -> house.gather(0, 10));
+        Check.unsupported(house, () -> house.gather(0, 10));
         house.hours(9);
         Check.same(house.of(0, 's'), 12);
-        Check.unsupported(() -> house.gather(0, 10));
-        Check.argument(() -> house.gather(0, 61));
+        Check.unsupported(house, () -> house.gather(0, 10));
+        Check.argument(house, () -> house.gather(0, 61));
         house.hours(1);
-        Check.unsupported(() -> house.gather(0, 31));
+        Check.unsupported(house, () -> house.gather(0, 31));
         Check.same(house.of(0, 'm'), 30);
         Check.same(house.gather(0, 20), 0);
-        Check.unsupported(() -> house.gather(0, 10));
+        Check.unsupported(house, () -> house.gather(0, 10));
         house.pass(19);
-        Check.unsupported(() -> house.gather(0, 10));
+        Check.unsupported(house, () -> house.gather(0, 10));
         house.pass(1);
         Check.same(house.gather(0, 10), 1);
         Check.same(house.of(0, 'm'), 0);
@@ -100,13 +100,13 @@ final class WorkTests {
             Check.same(house.gather(0, 20), i);
             Check.same(house.pass(20), 1);
         }
-        Check.illegalState(() -> house.gather(0, 20));
-        Check.argument(() -> house.gather(0, 9));
+        Check.illegalState(house, () -> house.gather(0, 20));
+        Check.argument(house, () -> house.gather(0, 9));
         Check.same(house.of(0, 'm'), 680);
         Check.same(house.pay('g'), 16);
         house.charge(0, 1);
-        Check.unsupported(() -> house.gather(0, 20));
-        Check.index(() -> house.state(16));
+        Check.unsupported(house, () -> house.gather(0, 20));
+        Check.index(house, () -> house.state(16));
     }
 
     private static void heatGains() {
@@ -130,22 +130,22 @@ final class WorkTests {
     private static void heatTakes() {
         Gatherhouse house = Houses.open();
         int piece = house.gather(0, 60);
-        Check.unsupported(() -> house.heat(piece, 5));
+        Check.unsupported(house, () -> house.heat(piece, 5));
         house.pass(20);
         Check.same(house.heat(piece, 5), 1);
-        Check.unsupported(() -> house.blow(piece, 0, 1));
+        Check.unsupported(house, () -> house.blow(piece, 0, 1));
         house.pass(2);
         Check.same(house.busy('b'), 0);
-        Check.unsupported(() -> house.heat(piece, 5));
+        Check.unsupported(house, () -> house.heat(piece, 5));
         house.pass(2);
-        Check.unsupported(() -> house.blow(piece, 0, 1));
+        Check.unsupported(house, () -> house.blow(piece, 0, 1));
         house.pass(1);
         Check.same(house.blow(piece, 0, 1), 50);
         house.pass(8);
         house.heat(piece, 1);
         house.pass(1);
         Check.same(house.busy('b'), 1);
-        Check.unsupported(() -> house.heat(piece, 1));
+        Check.unsupported(house, () -> house.heat(piece, 1));
         Check.same(house.blow(piece, 0, 1), 42);
     }
 
@@ -155,12 +155,12 @@ final class WorkTests {
         int two = Houses.ready(house, 0, 20);
         int three = Houses.ready(house, 0, 20);
         Check.same(house.heat(one, 6), 1);
-        Check.unsupported(() -> house.heat(two, 60));
+        Check.unsupported(house, () -> house.heat(two, 60));
         house.pass(2);
         Check.same(house.heat(two, 60), 0);
         house.pass(3);
         Check.same(house.busy('b'), 0);
-        Check.unsupported(() -> house.heat(three, 10));
+        Check.unsupported(house, () -> house.heat(three, 10));
         house.pass(1);
         Check.same(house.heat(three, 2), 0);
         house.pass(2);
@@ -171,20 +171,20 @@ final class WorkTests {
 
     private static void heatBounds() {
         Gatherhouse house = Houses.of(700, 900, 100);
-        Check.index(() -> house.heat(0, 0));
+        Check.index(house, () -> house.heat(0, 0));
         int piece = Houses.ready(house, 0, 20);
-        Check.index(() -> house.heat(1, 5));
-        Check.index(() -> house.heat(-1, 5));
-        Check.argument(() -> house.heat(piece, 0));
-        Check.argument(() -> house.heat(piece, 61));
+        Check.index(house, () -> house.heat(1, 5));
+        Check.index(house, () -> house.heat(-1, 5));
+        Check.argument(house, () -> house.heat(piece, 0));
+        Check.argument(house, () -> house.heat(piece, 61));
         Check.same(house.heat(piece, 60), 1);
         house.pass(60);
         Check.same(house.heatOf(piece), 1100);
         house.pass(100);
         house.crack(piece);
         house.pass(3);
-        Check.unsupported(() -> house.heat(piece, 5));
-        Check.argument(() -> house.heat(piece, 61));
+        Check.unsupported(house, () -> house.heat(piece, 5));
+        Check.argument(house, () -> house.heat(piece, 61));
     }
 
     private static void blowThins() {
@@ -194,28 +194,28 @@ final class WorkTests {
         Check.same(house.ring(piece, 0, 'r'), 7);
         Check.same(house.ring(piece, 0, 'h'), 10);
         Check.same(house.ring(piece, 0, 'w'), 28);
-        Check.unsupported(() -> house.blow(piece, 0, 2));
+        Check.unsupported(house, () -> house.blow(piece, 0, 2));
         house.pass(8);
         Check.same(house.blow(piece, 0, 30), 5);
         house.pass(8);
-        Check.unsupported(() -> house.blow(piece, 0, 24));
+        Check.unsupported(house, () -> house.blow(piece, 0, 24));
         Check.same(house.blow(piece, 0, 23), 3);
         Check.same(house.ring(piece, 0, 'r'), 60);
         house.pass(8);
-        Check.unsupported(() -> house.blow(piece, 0, 1));
+        Check.unsupported(house, () -> house.blow(piece, 0, 1));
     }
 
     private static void blowBounds() {
         Gatherhouse house = Houses.open();
-        Check.index(() -> house.blow(0, 0, 1));
+        Check.index(house, () -> house.blow(0, 0, 1));
         int piece = Houses.ready(house, 0, 10);
-        Check.index(() -> house.blow(piece, 1, 0));
-        Check.index(() -> house.blow(piece, -1, 1));
-        Check.index(() -> house.blow(piece, 8, 1));
-        Check.argument(() -> house.blow(piece, 0, 0));
-        Check.argument(() -> house.blow(piece, 0, 31));
-        Check.argument(() -> house.blow(piece, 0, -1));
-        Check.unsupported(() -> house.blow(piece, 0, 21));
+        Check.index(house, () -> house.blow(piece, 1, 0));
+        Check.index(house, () -> house.blow(piece, -1, 1));
+        Check.index(house, () -> house.blow(piece, 8, 1));
+        Check.argument(house, () -> house.blow(piece, 0, 0));
+        Check.argument(house, () -> house.blow(piece, 0, 31));
+        Check.argument(house, () -> house.blow(piece, 0, -1));
+        Check.unsupported(house, () -> house.blow(piece, 0, 21));
         Check.same(house.ring(piece, 0, 'r'), 5);
         Check.same(house.busy('f'), 0);
         Check.same(house.blow(piece, 0, 20), 2);
@@ -228,26 +228,26 @@ final class WorkTests {
         Check.same(house.ring(piece, 0, 'h'), 13);
         Check.same(house.ring(piece, 0, 'r'), 5);
         Check.same(house.ring(piece, 0, 'w'), 30);
-        Check.unsupported(() -> house.swing(piece, 0, 3));
+        Check.unsupported(house, () -> house.swing(piece, 0, 3));
         house.pass(6);
         Check.same(house.swing(piece, 0, 30), 9);
         house.pass(6);
-        Check.unsupported(() -> house.swing(piece, 0, 18));
+        Check.unsupported(house, () -> house.swing(piece, 0, 18));
         Check.same(house.swing(piece, 0, 17), 6);
         Check.same(house.ring(piece, 0, 'h'), 60);
     }
 
     private static void swingBounds() {
         Gatherhouse house = Houses.open();
-        Check.index(() -> house.swing(0, 0, 1));
+        Check.index(house, () -> house.swing(0, 0, 1));
         int piece = Houses.ready(house, 0, 10);
-        Check.index(() -> house.swing(piece, 1, 0));
-        Check.index(() -> house.swing(piece, -1, 1));
-        Check.argument(() -> house.swing(piece, 0, 0));
-        Check.argument(() -> house.swing(piece, 0, 31));
+        Check.index(house, () -> house.swing(piece, 1, 0));
+        Check.index(house, () -> house.swing(piece, -1, 1));
+        Check.argument(house, () -> house.swing(piece, 0, 0));
+        Check.argument(house, () -> house.swing(piece, 0, 31));
         Check.same(house.swing(piece, 0, 30), 2);
         house.pass(6);
-        Check.unsupported(() -> house.swing(piece, 0, 20));
+        Check.unsupported(house, () -> house.swing(piece, 0, 20));
         Check.same(house.ring(piece, 0, 'h'), 40);
         Check.same(house.busy('s'), 0);
     }
@@ -258,11 +258,11 @@ final class WorkTests {
         Check.same(house.neck(piece, 0, 1), 62);
         Check.same(house.ring(piece, 0, 'r'), 4);
         Check.same(house.ring(piece, 0, 'h'), 10);
-        Check.unsupported(() -> house.neck(piece, 0, 1));
+        Check.unsupported(house, () -> house.neck(piece, 0, 1));
         house.pass(10);
         Check.same(house.neck(piece, 0, 1), 82);
         house.pass(10);
-        Check.unsupported(() -> house.neck(piece, 0, 1));
+        Check.unsupported(house, () -> house.neck(piece, 0, 1));
         Check.same(house.ring(piece, 0, 'w'), 82);
         int thin = Houses.ready(house, 0, 19);
         Check.same(house.neck(thin, 0, 4), 95);
@@ -271,19 +271,19 @@ final class WorkTests {
 
     private static void neckBounds() {
         Gatherhouse house = Houses.open();
-        Check.index(() -> house.neck(0, 0, 1));
+        Check.index(house, () -> house.neck(0, 0, 1));
         int piece = Houses.ready(house, 0, 10);
-        Check.index(() -> house.neck(piece, 1, 0));
-        Check.index(() -> house.neck(piece, -1, 1));
-        Check.argument(() -> house.neck(piece, 0, 0));
-        Check.argument(() -> house.neck(piece, 0, 31));
-        Check.unsupported(() -> house.neck(piece, 0, 5));
-        Check.unsupported(() -> house.neck(piece, 0, 6));
-        Check.unsupported(() -> house.neck(piece, 0, 30));
+        Check.index(house, () -> house.neck(piece, 1, 0));
+        Check.index(house, () -> house.neck(piece, -1, 1));
+        Check.argument(house, () -> house.neck(piece, 0, 0));
+        Check.argument(house, () -> house.neck(piece, 0, 31));
+        Check.unsupported(house, () -> house.neck(piece, 0, 5));
+        Check.unsupported(house, () -> house.neck(piece, 0, 6));
+        Check.unsupported(house, () -> house.neck(piece, 0, 30));
         Check.same(house.ring(piece, 0, 'r'), 5);
         Check.same(house.busy('f'), 0);
         int thick = Houses.ready(house, 0, 20);
-        Check.unsupported(() -> house.neck(thick, 0, 4));
+        Check.unsupported(house, () -> house.neck(thick, 0, 4));
         Check.same(house.neck(thick, 0, 2), 33);
         house.pass(10);
         Check.same(house.neck(thick, 0, 2), 99);
@@ -300,7 +300,7 @@ final class WorkTests {
         Check.same(house.ring(piece, 1, 'h'), 6);
         Check.same(house.ring(piece, 1, 'w'), 36);
         Check.same(house.ring(piece, 1, 'r'), 5);
-        Check.unsupported(() -> house.split(piece, 0));
+        Check.unsupported(house, () -> house.split(piece, 0));
         house.pass(4);
         house.blow(piece, 1, 4);
         house.pass(8);
@@ -332,10 +332,10 @@ final class WorkTests {
 
     private static void splitBounds() {
         Gatherhouse house = Houses.open();
-        Check.index(() -> house.split(0, 0));
+        Check.index(house, () -> house.split(0, 0));
         int piece = Houses.ready(house, 0, 60);
-        Check.index(() -> house.split(piece, 1));
-        Check.index(() -> house.split(piece, -1));
+        Check.index(house, () -> house.split(piece, 1));
+        Check.index(house, () -> house.split(piece, -1));
         house.swing(piece, 0, 30);
         house.pass(6);
         int[] parted = {0, 0, 0, 3, 3, 5};
@@ -348,13 +348,13 @@ final class WorkTests {
         house.pass(4);
         Check.same(house.ring(piece, 0, 'h'), 2);
         Check.same(house.ring(piece, 7, 'h'), 5);
-        Check.unsupported(() -> house.split(piece, 7));
+        Check.unsupported(house, () -> house.split(piece, 7));
         Check.same(house.rings(piece), 8);
         Check.same(house.height(piece), 40);
         house.shear(piece);
         house.pass(5);
-        Check.unsupported(() -> house.split(piece, 0));
-        Check.unsupported(() -> house.split(piece, 1));
+        Check.unsupported(house, () -> house.split(piece, 0));
+        Check.unsupported(house, () -> house.split(piece, 1));
         Check.same(house.rings(piece), 7);
         Check.same(house.busy('s'), 0);
         Check.same(house.split(piece, 2), 8);
@@ -371,24 +371,24 @@ final class WorkTests {
         Check.same(house.rings(piece), 1);
         Check.same(house.mass(piece), 5 * 5 * 40);
         Check.same(house.height(piece), 5);
-        Check.index(() -> house.ring(piece, 1, 'w'));
-        Check.index(() -> house.colour(piece, 1));
+        Check.index(house, () -> house.ring(piece, 1, 'w'));
+        Check.index(house, () -> house.colour(piece, 1));
     }
 
     private static void shearBounds() {
         Gatherhouse house = Houses.open();
-        Check.index(() -> house.shear(0));
+        Check.index(house, () -> house.shear(0));
         int piece = Houses.ready(house, 0, 40);
-        Check.index(() -> house.shear(-1));
-        Check.index(() -> house.shear(16));
-        Check.unsupported(() -> house.shear(piece));
+        Check.index(house, () -> house.shear(-1));
+        Check.index(house, () -> house.shear(16));
+        Check.unsupported(house, () -> house.shear(piece));
         house.split(piece, 0);
-        Check.unsupported(() -> house.shear(piece));
+        Check.unsupported(house, () -> house.shear(piece));
         Check.same(house.rings(piece), 2);
         house.pass(4);
         house.shear(piece);
         house.pass(5);
-        Check.unsupported(() -> house.shear(piece));
+        Check.unsupported(house, () -> house.shear(piece));
         Check.same(house.rings(piece), 1);
     }
 
@@ -405,7 +405,7 @@ final class WorkTests {
         Check.same(house.ring(piece, 1, 'w'), 34);
         Check.same(house.colour(piece, 0), 2);
         Check.same(house.colour(piece, 1), 2);
-        Check.unsupported(() -> house.lay(piece, 1, 1));
+        Check.unsupported(house, () -> house.lay(piece, 1, 1));
         house.pass(15);
         Check.same(house.lay(piece, 0, 1), 2);
         Check.same(house.of(0, 'm'), 970 - 2);
@@ -415,14 +415,14 @@ final class WorkTests {
 
     private static void layBounds() {
         Gatherhouse house = Houses.ofTwo(100, 100);
-        Check.index(() -> house.lay(0, 1, 1));
+        Check.index(house, () -> house.lay(0, 1, 1));
         int piece = Houses.ready(house, 0, 30);
-        Check.index(() -> house.lay(piece, 2, 0));
-        Check.index(() -> house.lay(piece, -1, 1));
-        Check.index(() -> house.lay(-1, 1, 1));
-        Check.index(() -> house.lay(16, 1, 1));
-        Check.argument(() -> house.lay(piece, 1, 0));
-        Check.argument(() -> house.lay(piece, 1, 10));
+        Check.index(house, () -> house.lay(piece, 2, 0));
+        Check.index(house, () -> house.lay(piece, -1, 1));
+        Check.index(house, () -> house.lay(-1, 1, 1));
+        Check.index(house, () -> house.lay(16, 1, 1));
+        Check.argument(house, () -> house.lay(piece, 1, 0));
+        Check.argument(house, () -> house.lay(piece, 1, 10));
         Check.same(house.layers(piece), 0);
         Check.same(house.ring(piece, 0, 'w'), 30);
     }
@@ -439,14 +439,14 @@ final class WorkTests {
         int piece = Houses.ready(house, 0, 30);
         house.split(piece, 0);
         house.pass(4);
-        Check.unsupported(() -> house.lay(piece, 1, 8));
+        Check.unsupported(house, () -> house.lay(piece, 1, 8));
         house.crack(piece);
         house.pass(3);
         house.hours(1);
         int other = Houses.ready(house, 0, 30);
         house.split(other, 0);
         house.pass(4);
-        Check.unsupported(() -> house.lay(other, 1, 9));
+        Check.unsupported(house, () -> house.lay(other, 1, 9));
         Check.same(house.of(1, 'm'), 17);
         Check.same(house.lay(other, 1, 8), 1);
         Check.same(house.of(1, 'm'), 1);
@@ -464,10 +464,10 @@ final class WorkTests {
         }
         house.hours(10);
         int piece = Houses.ready(house, 0, 20);
-        Check.unsupported(() -> house.lay(piece, 3, 1));
+        Check.unsupported(house, () -> house.lay(piece, 3, 1));
         house.lay(piece, 1, 1);
         house.pass(15);
-        Check.unsupported(() -> house.lay(piece, 2, 1));
+        Check.unsupported(house, () -> house.lay(piece, 2, 1));
         Check.same(house.of(2, 'm'), 500);
         Check.same(house.lay(piece, 1, 1), 2);
         house.pass(15);
@@ -480,7 +480,7 @@ final class WorkTests {
     private static void narrowGlassAgreesWithNone() {
         Gatherhouse house = Houses.of(1001, 1100, 100);
         int piece = Houses.ready(house, 0, 20);
-        Check.unsupported(() -> house.lay(piece, 0, 1));
+        Check.unsupported(house, () -> house.lay(piece, 0, 1));
         Gatherhouse wider = Houses.of(1000, 1100, 100);
         int other = Houses.ready(wider, 0, 20);
         Check.same(wider.lay(other, 0, 1), 1);
@@ -498,7 +498,7 @@ final class WorkTests {
         int piece = Houses.ready(house, 0, 20);
         house.pass(4);
         Check.same(house.heatOf(piece), 1052);
-        Check.unsupported(() -> house.lay(piece, 1, 1));
+        Check.unsupported(house, () -> house.lay(piece, 1, 1));
         house.pass(1);
         Check.same(house.lay(piece, 1, 1), 1);
         Check.same(house.low(piece, false), 900);
@@ -509,7 +509,7 @@ final class WorkTests {
         int cool = house.gather(0, 20);
         house.pass(101);
         Check.same(house.heatOf(cool), 898);
-        Check.unsupported(() -> house.lay(cool, 1, 1));
+        Check.unsupported(house, () -> house.lay(cool, 1, 1));
         house.heat(cool, 1);
         house.pass(4);
         Check.same(house.heatOf(cool), 900);
@@ -524,7 +524,7 @@ final class WorkTests {
             Check.same(house.lay(piece, 0, 1), i);
             house.pass(15);
         }
-        Check.unsupported(() -> house.lay(piece, 0, 1));
+        Check.unsupported(house, () -> house.lay(piece, 0, 1));
         Check.same(house.layers(piece), 4);
         Check.same(house.ring(piece, 0, 'w'), 24);
         int thick = Houses.ready(house, 0, 19);
@@ -533,7 +533,7 @@ final class WorkTests {
         house.neck(thick, 1, 4);
         house.pass(10);
         Check.same(house.ring(thick, 1, 'w'), 95);
-        Check.unsupported(() -> house.lay(thick, 0, 5));
+        Check.unsupported(house, () -> house.lay(thick, 0, 5));
         Check.same(house.ring(thick, 0, 'w'), 19);
         Check.same(house.lay(thick, 0, 4), 1);
         Check.same(house.ring(thick, 1, 'w'), 99);
@@ -561,40 +561,40 @@ final class WorkTests {
 
     private static void rolesAreRefused(Gatherhouse house, int piece, int helper) {
         house.blow(helper, 0, 1);
-        Check.unsupported(() -> house.blow(piece, 0, 1));
-        Check.unsupported(() -> house.neck(piece, 0, 1));
+        Check.unsupported(house, () -> house.blow(piece, 0, 1));
+        Check.unsupported(house, () -> house.neck(piece, 0, 1));
         house.pass(8);
         house.swing(helper, 0, 1);
-        Check.unsupported(() -> house.swing(piece, 0, 1));
-        Check.unsupported(() -> house.split(piece, 0));
+        Check.unsupported(house, () -> house.swing(piece, 0, 1));
+        Check.unsupported(house, () -> house.split(piece, 0));
         house.pass(6);
         house.split(helper, 0);
         house.pass(4);
         house.split(piece, 0);
         house.pass(4);
         house.shear(helper);
-        Check.unsupported(() -> house.shear(piece));
+        Check.unsupported(house, () -> house.shear(piece));
         house.pass(5);
         house.lay(helper, 0, 1);
-        Check.unsupported(() -> house.lay(piece, 0, 1));
+        Check.unsupported(house, () -> house.lay(piece, 0, 1));
         house.pass(15);
         house.heat(helper, 1);
-        Check.unsupported(() -> house.crack(piece));
-        Check.unsupported(() -> house.heat(piece, 1));
+        Check.unsupported(house, () -> house.crack(piece));
+        Check.unsupported(house, () -> house.heat(piece, 1));
         Check.same(house.lay(piece, 0, 1), 1);
     }
 
     private static void refusesAllWork(Gatherhouse house, int piece) {
         int mass = house.mass(piece);
-        Check.unsupported(() -> house.blow(piece, 0, 1));
-        Check.unsupported(() -> house.swing(piece, 0, 1));
-        Check.unsupported(() -> house.neck(piece, 0, 1));
-        Check.unsupported(() -> house.split(piece, 0));
-        Check.unsupported(() -> house.shear(piece));
-        Check.unsupported(() -> house.lay(piece, 0, 1));
-        Check.unsupported(() -> house.crack(piece));
-        Check.argument(() -> house.blow(piece, 0, 31));
-        Check.index(() -> house.split(piece, 7));
+        Check.unsupported(house, () -> house.blow(piece, 0, 1));
+        Check.unsupported(house, () -> house.swing(piece, 0, 1));
+        Check.unsupported(house, () -> house.neck(piece, 0, 1));
+        Check.unsupported(house, () -> house.split(piece, 0));
+        Check.unsupported(house, () -> house.shear(piece));
+        Check.unsupported(house, () -> house.lay(piece, 0, 1));
+        Check.unsupported(house, () -> house.crack(piece));
+        Check.argument(house, () -> house.blow(piece, 0, 31));
+        Check.index(house, () -> house.split(piece, 7));
         Check.same(house.mass(piece), mass);
     }
 
@@ -603,7 +603,7 @@ final class WorkTests {
         int piece = Houses.ready(house, 0, 40);
         house.pass(1);
         Check.same(house.heatOf(piece), 1058);
-        Check.unsupported(() -> house.split(piece, 0));
+        Check.unsupported(house, () -> house.split(piece, 0));
         house.pass(1);
         Check.same(house.split(piece, 0), 2);
         house.pass(28);
