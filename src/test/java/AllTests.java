@@ -13,6 +13,7 @@ public final class AllTests {
         PlaceTests.run();
         RefusalTests.run();
         OrderTests.run();
+        EdgeTests.run();
         TimeTests.run();
         WorkTests.run();
         JoinTests.run();
