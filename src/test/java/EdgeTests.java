@@ -20,6 +20,7 @@ final class EdgeTests {
         Check.test("21: the first one's heat at the ends of the other's range, and 1 beyond", EdgeTests::joinHeat);
         Check.test("21: eight rings together, and nine", EdgeTests::joinRings);
         Check.test("21: four layers on the first one, none on the other", EdgeTests::joinLayers);
+        Check.test("15 to 22: work at the ends of all glasses' ranges, and 1 beyond", EdgeTests::rangeOfAllGlasses);
         Check.test("36: days to the break are told by all glasses, be their layers cut", EdgeTests::cutLayersBreak);
         Check.test("38: all of a layer, and 1 more", EdgeTests::cutAllOfALayer);
         Check.test("38: a layer is as thick as it was laid, the wall being blown", EdgeTests::layerStaysThick);
@@ -354,6 +355,38 @@ final class EdgeTests {
         house.pass(12);
         Check.same(house.layers(0), 4);
         Check.unsupported(house, () -> house.lay(0, 0, 1));
+    }
+
+    /** The layer's range is the narrower one: its high is the heat after 14 seconds in a hole, or 1 less. */
+    private static void rangeOfAllGlasses() {
+        for (int high = 1061; high <= 1062; high++) {
+            Gatherhouse house = with(new int[] {900, high, 100});
+            Houses.ready(house, 0, 40);
+            house.lay(0, 1, 1);
+            house.pass(15);
+            house.pass(40);
+            Check.same(house.heatOf(0), 950);
+            Check.same(house.low(0, false), 900);
+            Check.same(house.low(0, true), high);
+            house.heat(0, 14);
+            house.pass(14);
+            Check.same(house.heatOf(0), 1062);
+            if (high == 1062) {
+                Check.same(house.blow(0, 0, 1), 34);
+            } else {
+                Check.unsupported(house, () -> house.blow(0, 0, 1));
+                Check.unsupported(house, () -> house.crack(0));
+                house.pass(1);
+                Check.same(house.crack(0), 1);
+            }
+        }
+        Gatherhouse cold = with(new int[] {950, 1100, 100});
+        Houses.ready(cold, 0, 40);
+        cold.lay(0, 1, 1);
+        cold.pass(55);
+        Check.same(cold.heatOf(0), 950);
+        Check.same(cold.blow(0, 0, 1), 34);
+        Check.same(cold.pass(1), 1);
     }
 
     private static void cutLayersBreak() {
