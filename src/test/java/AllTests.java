@@ -24,6 +24,7 @@ public final class AllTests {
         FigureTests.run();
         ExampleTests.run();
         RandomTests.run();
+        ModelTests.run();
         FaceTests.run(args[0], args[1]);
         System.out.println(Check.passed + " passed, " + Check.failed + " failed");
         System.exit(Check.failed == 0 && Check.passed > 0 ? 0 : 1);
