@@ -64,7 +64,7 @@ public final class Gatherhouse {
         checkRange(high, low, HOTTEST);
         checkRange(expansion, 50, 150);
         checkRange(colour, 0, 9);
-        if (glassCount >= glasses.length) {
+        if (glassCount < 0 || glassCount >= glasses.length) {
             throw new IllegalStateException("no more glasses");
         }
         glasses[glassCount] = new Glass(low, high, expansion, colour);
@@ -80,7 +80,7 @@ public final class Gatherhouse {
 
     public int pot(int glass) throws IndexOutOfBoundsException, IllegalStateException {
         Glass content = findGlass(glass);
-        if (potCount >= pots.length) {
+        if (potCount < 0 || potCount >= pots.length) {
             throw new IllegalStateException("no more pots");
         }
         pots[potCount] = new Pot(content);
@@ -166,7 +166,7 @@ public final class Gatherhouse {
         if (!from.canGive(mass) || gatherer.isBusy()) {
             throw new UnsupportedOperationException("the pot cannot give it, or the role is busy");
         }
-        if (pieceCount >= pieces.length) {
+        if (pieceCount < 0 || pieceCount >= pieces.length) {
             throw new IllegalStateException("no more pieces");
         }
         from.mass -= mass;

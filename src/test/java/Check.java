@@ -1,3 +1,5 @@
+import java.util.ArrayList;
+import java.util.List;
 import java.util.Objects;
 
 /** Counts tests; a test is a named body that throws AssertionError where an answer is not the due one. */
@@ -12,11 +14,13 @@ final class Check {
 
     static int passed = 0;
     static int failed = 0;
+    static final List<String> NAMES = new ArrayList<>();
 
     private Check() {
     }
 
     static void test(String name, Body body) {
+        NAMES.add(name);
         try {
             body.run();
             passed++;
